@@ -13,6 +13,8 @@ public final class HistoryTest {
         test.promise18WholeState();
         test.promise18TextAndSnapshotStay();
         test.promise18WhatIsAnAction();
+        test.promise18ErrorsLeaveTheHistory();
+        test.promise18ValuesBeforeChanges();
         test.promise19Save();
         test.promise20Restore();
         test.promise20WholeState();
@@ -157,13 +159,80 @@ public final class HistoryTest {
     private void promise18WhatIsAnAction() {
         for (int call = 0; call < 14; call++) {
             prepare();
+            String before = state();
             int answer = action(call);
             checks.holds("action " + call + " is possible", answer >= 0);
             due("undo of action " + call, store.undo(), 4);
+            checks.holds("action " + call + " is undone", state().equals(before));
         }
         prepare();
         noActions();
         due("errors, text, save and queries are no actions", store.undo(), 3);
+    }
+
+    /** What the queries tell. */
+    private String state() {
+        StringBuilder text = new StringBuilder();
+        for (int what = 0; what < 7; what++) {
+            text.append(store.total(what)).append(' ');
+        }
+        for (int key = 0; key < 16; key++) {
+            text.append(store.value(key)).append(' ').append(store.committed(key)).append(' ');
+            for (int session = 0; session < 3; session++) {
+                text.append(store.mode(session, key)).append(' ');
+            }
+        }
+        for (int session = 0; session < 3; session++) {
+            for (int what = 0; what < 5; what++) {
+                text.append(store.session(session, what)).append(' ');
+            }
+            for (int savepoint = 0; savepoint < 12; savepoint++) {
+                text.append(store.nameOf(session, savepoint)).append(' ');
+                text.append(store.changedSince(session, savepoint, true)).append(' ');
+                text.append(store.changedSince(session, savepoint, false)).append(' ');
+            }
+        }
+        return text.toString();
+    }
+
+    /** An error behind a full history leaves its oldest state as it is. */
+    private void promise18ErrorsLeaveTheHistory() {
+        store = new SavepointStore();
+        store.begin(0);
+        for (int value = 1; value <= 6; value++) {
+            store.write(0, 0, value);
+        }
+        for (int left = 5; left > 0; left--) {
+            store.begin(0);
+            store.write(0, 0, -1);
+            store.restore();
+            store.perform();
+            due("value(0)", store.value(0), left + 1);
+            due("undo", store.undo(), left - 1);
+            due("value(0)", store.value(0), left);
+        }
+    }
+
+    /** The values before a change are part of the state, also where other changes came since. */
+    private void promise18ValuesBeforeChanges() {
+        store = new SavepointStore();
+        store.begin(0);
+        store.write(0, 0, 1);
+        store.commit(0);
+        store.begin(0);
+        store.write(0, 0, 2);
+        store.save();
+        store.commit(0);
+        store.begin(0);
+        store.write(0, 0, 3);
+        due("committed(0)", store.committed(0), 2);
+        store.restore();
+        due("committed(0) behind restore", store.committed(0), 1);
+        due("undo", store.undo(), 4);
+        due("committed(0) behind undo", store.committed(0), 2);
+        store.restore();
+        due("rollback behind restore", store.rollback(0), 1);
+        due("value(0)", store.value(0), 1);
     }
 
     /** Four actions, so that the history has room for just one more. */

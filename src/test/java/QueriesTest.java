@@ -292,6 +292,9 @@ public final class QueriesTest {
         checks.dueDouble("mean of nothing", store.mean(), 0.0);
         store.write(0, 0, 0);
         checks.dueDouble("mean of 0", store.mean(), 0.0);
+        store.write(0, 0, 7);
+        checks.dueDouble("mean of 7", store.mean(), 7.0);
+        store.write(0, 0, 0);
         store.write(0, 15, 1);
         checks.dueDouble("mean of 0 and 1", store.mean(), 0.5);
         store.write(0, 3, 9999);

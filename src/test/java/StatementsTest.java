@@ -128,7 +128,7 @@ public final class StatementsTest {
         due("the first key is undone", store.value(0), 10);
         due("the lock is given back", store.mode(0, 2), 0);
         due("a failing first key", store.shift(0, 1 << 2, 1), SavepointStore.FAILED);
-        due("no value and a sum of -5", store.shift(0, 1 << 2, 0), SavepointStore.FAILED);
+        due("no value by 9999", store.shift(0, 1 << 2, 9999), SavepointStore.FAILED);
         due("up to 9999", store.shift(0, 3, 9), 2);
         due("total(2)", store.total(2), 4);
         due("total(4)", store.total(4), 5);
