@@ -48,10 +48,10 @@ final class Checks {
         return store.fault();
     }
 
-    /** How many states the history holds; it is emptied by this. */
+    /** How many states the history holds, ten if it has no end; it is emptied by this. */
     static int emptyHistory(SavepointStore store) {
         int states = 0;
-        while (store.undo() != SavepointStore.NONE) {
+        while (states < 10 && store.undo() != SavepointStore.NONE) {
             states++;
         }
         return states;

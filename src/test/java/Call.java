@@ -1,0 +1,4 @@
+/** One call and its answer. */
+interface Call {
+    int on(SavepointStore store);
+}
