@@ -29,7 +29,8 @@ abstract class Boundaries {
     private final Map<Run, String> pictures = new IdentityHashMap<>();
     private String sentence = "";
 
-    final void runAll() throws ReflectiveOperationException {
+    /** Runs all cases; each of these promises has to have one. */
+    final void runAll(int firstPromise, int lastPromise) throws ReflectiveOperationException {
         Method[] methods = getClass().getDeclaredMethods();
         Arrays.sort(methods, Comparator.comparing(Method::getName));
         int run = 0;
@@ -39,6 +40,12 @@ abstract class Boundaries {
                 method.invoke(this);
                 run++;
             }
+        }
+        sentence = getClass().getName();
+        for (int promise = firstPromise; promise <= lastPromise; promise++) {
+            String name = "promise" + promise + "[A-Z].*";
+            holds("promise " + promise + " has a boundary case",
+                    Arrays.stream(methods).anyMatch(method -> method.getName().matches(name)));
         }
         System.out.println(run + " boundary cases");
         checks.end();

@@ -23,7 +23,7 @@ public final class HistoryBoundaryTest extends Boundaries {
     };
 
     public static void main(String[] args) throws ReflectiveOperationException {
-        new HistoryBoundaryTest().runAll();
+        new HistoryBoundaryTest().runAll(18, 20);
     }
 
     /** So many actions, and as many states in the history. */

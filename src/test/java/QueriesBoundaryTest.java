@@ -8,7 +8,7 @@ public final class QueriesBoundaryTest extends Boundaries {
     private static final Run[] SCENES = {Scenes.NOTHING, Scenes.MIXED};
 
     public static void main(String[] args) throws ReflectiveOperationException {
-        new QueriesBoundaryTest().runAll();
+        new QueriesBoundaryTest().runAll(21, 31);
     }
 
     // ---- 21: value

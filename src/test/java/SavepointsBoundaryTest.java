@@ -3,7 +3,7 @@ public final class SavepointsBoundaryTest extends Boundaries {
     private static final Run OPEN = store -> store.begin(0);
 
     public static void main(String[] args) throws ReflectiveOperationException {
-        new SavepointsBoundaryTest().runAll();
+        new SavepointsBoundaryTest().runAll(6, 8);
     }
 
     /** Session 0 with twelve savepoints of one name; key n is changed behind the savepoint n. */
@@ -145,56 +145,23 @@ public final class SavepointsBoundaryTest extends Boundaries {
     // ---- 7: undoTo
 
     void promise7NoSuchSession() {
-        for (int session : NO_SESSIONS) {
-            refused("undoTo(" + session + ", 2)", NO_SUCH, store -> store.undoTo(session, 2),
-                    Scenes.NOTHING, Scenes.MIXED, Scenes.FULL_SAVEPOINTS);
-        }
+        noSuchSession("undoTo", SavepointStore::undoTo);
     }
 
     void promise7NameOutOfRange() {
-        for (int name : NO_NAMES) {
-            refused("undoTo(0, " + name + ")", BAD_VALUE, store -> store.undoTo(0, name),
-                    Scenes.MIXED, Scenes.FULL_SAVEPOINTS);
-        }
+        nameOutOfRange("undoTo", SavepointStore::undoTo);
     }
 
     void promise7NoOpenTransaction() {
-        for (int name = 0; name <= 7; name++) {
-            int any = name;
-            refused("undoTo(2, " + name + ")", NOT_POSSIBLE, store -> store.undoTo(2, any),
-                    Scenes.NOTHING, Scenes.MIXED, Scenes.FULL_SAVEPOINTS);
-        }
-        refused("undoTo behind commit", NOT_POSSIBLE, store -> store.undoTo(0, 3),
-                Scenes.FULL_SAVEPOINTS.then(store -> store.commit(0)),
-                Scenes.FULL_SAVEPOINTS.then(store -> store.rollback(0)));
+        noOpenTransaction("undoTo", SavepointStore::undoTo);
     }
 
     void promise7NoSavepointOfThisName() {
-        for (int name : new int[] {0, 1, 4, 5, 6, 7}) {
-            refused("undoTo(0, " + name + ")", NOT_POSSIBLE, store -> store.undoTo(0, name), Scenes.MIXED);
-        }
-        refused("undoTo(1, 2), a name of session 0", NOT_POSSIBLE, store -> store.undoTo(1, 2), Scenes.MIXED);
-        refused("undoTo(0, 0)", NOT_POSSIBLE, store -> store.undoTo(0, 0), OPEN);
-        refused("undoTo of a released one", NOT_POSSIBLE, store -> store.undoTo(1, 4),
-                Scenes.MIXED.then(store -> store.release(1, 4)));
-        refused("undoTo of one that went by undoTo", NOT_POSSIBLE, store -> store.undoTo(0, 7),
-                Scenes.FULL_SAVEPOINTS.then(store -> store.undoTo(0, 6)));
-        refused("undoTo of an earlier transaction's", NOT_POSSIBLE, store -> store.undoTo(0, 3),
-                Scenes.FULL_SAVEPOINTS.then(store -> store.commit(0)).then(OPEN));
+        noSavepointOfThisName("undoTo", SavepointStore::undoTo);
     }
 
     void promise7FirstCodeOfTwo() {
-        for (int session : NO_SESSIONS) {
-            refused("undoTo(" + session + ", 8)", NO_SUCH, store -> store.undoTo(session, 8),
-                    Scenes.NOTHING, Scenes.MIXED);
-            refused("undoTo(" + session + ", -1)", NO_SUCH, store -> store.undoTo(session, -1), Scenes.MIXED);
-        }
-        for (int name : NO_NAMES) {
-            refused("undoTo(2, " + name + ") of a closed session", BAD_VALUE,
-                    store -> store.undoTo(2, name), Scenes.NOTHING, Scenes.MIXED);
-            refused("undoTo(0, " + name + ") without a savepoint", BAD_VALUE,
-                    store -> store.undoTo(0, name), OPEN);
-        }
+        firstCodeOfTwo("undoTo", SavepointStore::undoTo);
     }
 
     void promise7LeastAndGreatestArguments() {
@@ -213,53 +180,31 @@ public final class SavepointsBoundaryTest extends Boundaries {
         }
     }
 
-    private void dueUndoTo(String name, int want, Run before, Run behind) {
-        Run all = OPEN.then(before).then(store -> store.savepoint(0, 6));
-        Run undone = all.then(behind).then(store -> store.undoTo(0, 6));
-        due("undoTo behind " + name, all.then(behind).made().undoTo(0, 6), want);
-        holds("undoTo behind " + name + " brings back all", Picture.ofState(undone).equals(Picture.ofState(all)));
+    private void dueUndoTo(Change... changes) {
+        for (Change change : changes) {
+            Run before = change.committed().then(store -> {
+                store.begin(1);
+                store.savepoint(1, 6);
+            });
+            Run behind = before.then(change.during());
+            due("undoTo behind " + change.name(), behind.made().undoTo(1, 6), change.keys());
+            holds("undoTo behind " + change.name() + " brings back all",
+                    Picture.ofState(behind.then(store -> store.undoTo(1, 6))).equals(Picture.ofState(before)));
+        }
     }
 
     /** "Returns the number of keys that get another value by this" */
     void promise7NoKeyGetsAnotherValue() {
-        Run five = store -> store.write(0, 0, 5);
-        dueUndoTo("nothing", 0, five, store -> { });
-        dueUndoTo("a read", 0, five, store -> store.read(0, 1));
-        dueUndoTo("the same value", 0, five, store -> store.write(0, 0, 5));
-        dueUndoTo("the value as before", 0, five, store -> {
-            store.erase(0, 0);
-            store.savepoint(0, 7);
-            store.write(0, 0, 5);
-        });
-        dueUndoTo("no value as before", 0, five, store -> {
-            store.write(0, 1, 6);
-            store.erase(0, 1);
-        });
-        dueUndoTo("a statement that failed", 0, five, store -> store.shift(0, 3, 1));
+        dueUndoTo(Change.OF_NO_KEY);
     }
 
     /** "(or a value instead of none, or none instead of a value)" */
     void promise7OneKeyOfEachKind() {
-        Run zero = store -> store.write(0, 0, 0);
-        dueUndoTo("another value", 1, zero, store -> store.write(0, 0, 1));
-        dueUndoTo("a value instead of none", 1, zero, store -> store.write(0, 15, 0));
-        dueUndoTo("none instead of a value", 1, zero, store -> store.erase(0, 0));
-        dueUndoTo("two changes of a key", 1, zero, store -> {
-            store.write(0, 0, 1);
-            store.savepoint(0, 7);
-            store.write(0, 0, 2);
-        });
+        dueUndoTo(Change.OF_ONE_KEY);
     }
 
     void promise7AllKeys() {
-        Run fill = store -> {
-            for (int key = 0; key < 16; key++) {
-                store.write(0, key, key);
-            }
-        };
-        dueUndoTo("values instead of none", 16, store -> { }, fill);
-        dueUndoTo("other values", 16, fill, store -> store.shift(0, 65535, 1));
-        dueUndoTo("the same values", 0, fill, fill);
+        dueUndoTo(Change.OF_ALL_KEYS);
     }
 
     /** "The savepoint remains, those with greater numbers go." */
@@ -411,54 +356,23 @@ public final class SavepointsBoundaryTest extends Boundaries {
     // ---- 8: release
 
     void promise8NoSuchSession() {
-        for (int session : NO_SESSIONS) {
-            refused("release(" + session + ", 2)", NO_SUCH, store -> store.release(session, 2),
-                    Scenes.NOTHING, Scenes.MIXED, Scenes.FULL_SAVEPOINTS);
-        }
+        noSuchSession("release", SavepointStore::release);
     }
 
     void promise8NameOutOfRange() {
-        for (int name : NO_NAMES) {
-            refused("release(0, " + name + ")", BAD_VALUE, store -> store.release(0, name),
-                    Scenes.MIXED, Scenes.FULL_SAVEPOINTS);
-        }
+        nameOutOfRange("release", SavepointStore::release);
     }
 
     void promise8NoOpenTransaction() {
-        for (int name = 0; name <= 7; name++) {
-            int any = name;
-            refused("release(2, " + name + ")", NOT_POSSIBLE, store -> store.release(2, any),
-                    Scenes.NOTHING, Scenes.MIXED, Scenes.FULL_SAVEPOINTS);
-        }
-        refused("release behind commit", NOT_POSSIBLE, store -> store.release(0, 3),
-                Scenes.FULL_SAVEPOINTS.then(store -> store.commit(0)),
-                Scenes.FULL_SAVEPOINTS.then(store -> store.rollback(0)));
+        noOpenTransaction("release", SavepointStore::release);
     }
 
     void promise8NoSavepointOfThisName() {
-        for (int name : new int[] {0, 1, 4, 5, 6, 7}) {
-            refused("release(0, " + name + ")", NOT_POSSIBLE, store -> store.release(0, name), Scenes.MIXED);
-        }
-        refused("release(1, 2), a name of session 0", NOT_POSSIBLE, store -> store.release(1, 2), Scenes.MIXED);
-        refused("release(0, 0)", NOT_POSSIBLE, store -> store.release(0, 0), OPEN);
-        refused("release of a released one", NOT_POSSIBLE, store -> store.release(1, 4),
-                Scenes.MIXED.then(store -> store.release(1, 4)));
-        refused("release of an earlier transaction's", NOT_POSSIBLE, store -> store.release(0, 3),
-                Scenes.FULL_SAVEPOINTS.then(store -> store.commit(0)).then(OPEN));
+        noSavepointOfThisName("release", SavepointStore::release);
     }
 
     void promise8FirstCodeOfTwo() {
-        for (int session : NO_SESSIONS) {
-            refused("release(" + session + ", 8)", NO_SUCH, store -> store.release(session, 8),
-                    Scenes.NOTHING, Scenes.MIXED);
-            refused("release(" + session + ", -1)", NO_SUCH, store -> store.release(session, -1), Scenes.MIXED);
-        }
-        for (int name : NO_NAMES) {
-            refused("release(2, " + name + ") of a closed session", BAD_VALUE,
-                    store -> store.release(2, name), Scenes.NOTHING, Scenes.MIXED);
-            refused("release(0, " + name + ") without a savepoint", BAD_VALUE,
-                    store -> store.release(0, name), OPEN);
-        }
+        firstCodeOfTwo("release", SavepointStore::release);
     }
 
     void promise8LeastAndGreatestArguments() {
@@ -546,5 +460,59 @@ public final class SavepointsBoundaryTest extends Boundaries {
     void promise8IsRecorded() {
         recorded("release(0, 0)", store -> store.release(0, 0), OPEN.then(store -> store.savepoint(0, 0)));
         recorded("release(0, 2)", store -> store.release(0, 2), Scenes.MIXED);
+    }
+
+    // ---- what undoTo and release share
+
+    private void noSuchSession(String method, Call.OfTwo call) {
+        for (int session : NO_SESSIONS) {
+            refused(method + "(" + session + ", 2)", NO_SUCH, call.by(session, 2),
+                    Scenes.NOTHING, Scenes.MIXED, Scenes.FULL_SAVEPOINTS);
+        }
+    }
+
+    private void nameOutOfRange(String method, Call.OfTwo call) {
+        for (int name : NO_NAMES) {
+            refused(method + "(0, " + name + ")", BAD_VALUE, call.by(0, name),
+                    Scenes.MIXED, Scenes.FULL_SAVEPOINTS);
+        }
+    }
+
+    private void noOpenTransaction(String method, Call.OfTwo call) {
+        for (int name = 0; name <= 7; name++) {
+            refused(method + "(2, " + name + ")", NOT_POSSIBLE, call.by(2, name),
+                    Scenes.NOTHING, Scenes.MIXED, Scenes.FULL_SAVEPOINTS);
+        }
+        refused(method + " behind the end", NOT_POSSIBLE, call.by(0, 3),
+                Scenes.FULL_SAVEPOINTS.then(store -> store.commit(0)),
+                Scenes.FULL_SAVEPOINTS.then(store -> store.rollback(0)));
+    }
+
+    private void noSavepointOfThisName(String method, Call.OfTwo call) {
+        for (int name : new int[] {0, 1, 4, 5, 6, 7}) {
+            refused(method + "(0, " + name + ")", NOT_POSSIBLE, call.by(0, name), Scenes.MIXED);
+        }
+        refused(method + "(1, 2), a name of session 0", NOT_POSSIBLE, call.by(1, 2), Scenes.MIXED);
+        refused(method + "(0, 0) without savepoints", NOT_POSSIBLE, call.by(0, 0), OPEN);
+        refused(method + " of a released one", NOT_POSSIBLE, call.by(1, 4),
+                Scenes.MIXED.then(store -> store.release(1, 4)));
+        refused(method + " of one that went by undoTo", NOT_POSSIBLE, call.by(0, 7),
+                Scenes.FULL_SAVEPOINTS.then(store -> store.undoTo(0, 6)));
+        refused(method + " of one that went by release", NOT_POSSIBLE, call.by(0, 7),
+                Scenes.FULL_SAVEPOINTS.then(store -> store.release(0, 6)));
+        refused(method + " of an earlier transaction's", NOT_POSSIBLE, call.by(0, 3),
+                Scenes.FULL_SAVEPOINTS.then(store -> store.commit(0)).then(OPEN));
+    }
+
+    private void firstCodeOfTwo(String method, Call.OfTwo call) {
+        for (int session : NO_SESSIONS) {
+            refused(method + "(" + session + ", 8)", NO_SUCH, call.by(session, 8), Scenes.NOTHING, Scenes.MIXED);
+            refused(method + "(" + session + ", -1)", NO_SUCH, call.by(session, -1), Scenes.MIXED);
+        }
+        for (int name : NO_NAMES) {
+            refused(method + "(2, " + name + ") of a closed session", BAD_VALUE, call.by(2, name),
+                    Scenes.NOTHING, Scenes.MIXED);
+            refused(method + "(0, " + name + ") without a savepoint", BAD_VALUE, call.by(0, name), OPEN);
+        }
     }
 }

@@ -25,35 +25,25 @@ public final class StatementsBoundaryTest extends Boundaries {
     private static final Run CLOSED = LOCKED.then(store -> store.commit(0));
 
     public static void main(String[] args) throws ReflectiveOperationException {
-        new StatementsBoundaryTest().runAll();
+        new StatementsBoundaryTest().runAll(9, 13);
     }
 
     // ---- 9: read
 
     void promise9NoSuchSession() {
-        for (int session : NO_SESSIONS) {
-            refused("read(" + session + ", 0)", NO_SUCH, store -> store.read(session, 0),
-                    Scenes.NOTHING, LOCKED);
-        }
+        noSuchSession("read", SavepointStore::read);
     }
 
     void promise9NoSuchKey() {
-        for (int key : NO_KEYS) {
-            refused("read(0, " + key + ")", NO_SUCH, store -> store.read(0, key), LOCKED, Scenes.MIXED);
-        }
+        noSuchKey("read", SavepointStore::read);
     }
 
     void promise9NoOpenTransaction() {
-        refused("read(0, 0)", NOT_POSSIBLE, store -> store.read(0, 0), Scenes.NOTHING, CLOSED);
-        refused("read(2, 15)", NOT_POSSIBLE, store -> store.read(2, 15), Scenes.NOTHING, Scenes.MIXED);
+        noOpenTransaction("read", SavepointStore::read);
     }
 
     void promise9FirstCodeOfTwo() {
-        for (int key : NO_KEYS) {
-            refused("read(0, " + key + ") of a closed session", NO_SUCH, store -> store.read(0, key),
-                    Scenes.NOTHING, CLOSED);
-        }
-        refused("read(0, 8) of a closed session and a busy key", NOT_POSSIBLE, store -> store.read(0, 8), CLOSED);
+        firstCodeOfTwo("read", SavepointStore::read);
     }
 
     void promise9LeastAndGreatestArguments() {
@@ -207,30 +197,19 @@ public final class StatementsBoundaryTest extends Boundaries {
     // ---- 11: erase
 
     void promise11NoSuchSession() {
-        for (int session : NO_SESSIONS) {
-            refused("erase(" + session + ", 0)", NO_SUCH, store -> store.erase(session, 0),
-                    Scenes.NOTHING, LOCKED);
-        }
+        noSuchSession("erase", SavepointStore::erase);
     }
 
     void promise11NoSuchKey() {
-        for (int key : NO_KEYS) {
-            refused("erase(0, " + key + ")", NO_SUCH, store -> store.erase(0, key), LOCKED, Scenes.MIXED);
-        }
+        noSuchKey("erase", SavepointStore::erase);
     }
 
     void promise11NoOpenTransaction() {
-        refused("erase(0, 0)", NOT_POSSIBLE, store -> store.erase(0, 0), Scenes.NOTHING, CLOSED);
-        refused("erase(2, 15)", NOT_POSSIBLE, store -> store.erase(2, 15), Scenes.NOTHING, Scenes.MIXED);
+        noOpenTransaction("erase", SavepointStore::erase);
     }
 
     void promise11FirstCodeOfTwo() {
-        for (int key : NO_KEYS) {
-            refused("erase(0, " + key + ") of a closed session", NO_SUCH, store -> store.erase(0, key),
-                    Scenes.NOTHING, CLOSED);
-        }
-        refused("erase(0, 8) of a closed session and a busy key", NOT_POSSIBLE,
-                store -> store.erase(0, 8), CLOSED);
+        firstCodeOfTwo("erase", SavepointStore::erase);
     }
 
     void promise11LeastAndGreatestArguments() {
@@ -560,6 +539,33 @@ public final class StatementsBoundaryTest extends Boundaries {
     void promise13IsRecorded() {
         recorded("move(0, 1, 2, 1)", store -> store.move(0, 1, 2, 1), LOCKED);
         recorded("move(0, 1, 2, 1) that fails", store -> store.move(0, 1, 2, 1), store -> store.begin(0));
+    }
+
+    // ---- what read and erase share
+
+    private void noSuchSession(String method, Call.OfTwo call) {
+        for (int session : NO_SESSIONS) {
+            refused(method + "(" + session + ", 0)", NO_SUCH, call.by(session, 0), Scenes.NOTHING, LOCKED);
+        }
+    }
+
+    private void noSuchKey(String method, Call.OfTwo call) {
+        for (int key : NO_KEYS) {
+            refused(method + "(0, " + key + ")", NO_SUCH, call.by(0, key), LOCKED, Scenes.MIXED);
+        }
+    }
+
+    private void noOpenTransaction(String method, Call.OfTwo call) {
+        refused(method + "(0, 0)", NOT_POSSIBLE, call.by(0, 0), Scenes.NOTHING, CLOSED);
+        refused(method + "(2, 15)", NOT_POSSIBLE, call.by(2, 15), Scenes.NOTHING, Scenes.MIXED);
+    }
+
+    private void firstCodeOfTwo(String method, Call.OfTwo call) {
+        for (int key : NO_KEYS) {
+            refused(method + "(0, " + key + ") of a closed session", NO_SUCH, call.by(0, key),
+                    Scenes.NOTHING, CLOSED);
+        }
+        refused(method + "(0, 8) of a closed session and a busy key", NOT_POSSIBLE, call.by(0, 8), CLOSED);
     }
 
     // ---- "To lock a key with a mode": every state of the three sessions on a key

@@ -7,7 +7,7 @@ public final class TextBoundaryTest extends Boundaries {
     private static final String CUT_TEXT = Scenes.FULL_SCRIPT.substring(0, 76) + "w15=";
 
     public static void main(String[] args) throws ReflectiveOperationException {
-        new TextBoundaryTest().runAll();
+        new TextBoundaryTest().runAll(14, 17);
     }
 
     private static Run text(String text) {

@@ -1,7 +1,7 @@
 /** The boundary cases of promises 1 to 5: a new object, keep, begin, commit, rollback. */
 public final class TransactionsBoundaryTest extends Boundaries {
     public static void main(String[] args) throws ReflectiveOperationException {
-        new TransactionsBoundaryTest().runAll();
+        new TransactionsBoundaryTest().runAll(1, 5);
     }
 
     // ---- 1: "without values, with the setting KEEP 0, with an empty text and an empty history,
@@ -115,10 +115,7 @@ public final class TransactionsBoundaryTest extends Boundaries {
     // ---- 3: begin
 
     void promise3NoSuchSession() {
-        for (int session : NO_SESSIONS) {
-            refused("begin(" + session + ")", NO_SUCH, store -> store.begin(session),
-                    Scenes.NOTHING, Scenes.MIXED, Scenes.ALL_OPEN);
-        }
+        noSuchSession("begin", SavepointStore::begin);
     }
 
     void promise3LeastAndGreatestSession() {
@@ -174,96 +171,46 @@ public final class TransactionsBoundaryTest extends Boundaries {
     // ---- 4: commit
 
     void promise4NoSuchSession() {
-        for (int session : NO_SESSIONS) {
-            refused("commit(" + session + ")", NO_SUCH, store -> store.commit(session),
-                    Scenes.NOTHING, Scenes.MIXED, Scenes.ALL_OPEN);
-        }
+        noSuchSession("commit", SavepointStore::commit);
     }
 
     void promise4LeastAndGreatestSession() {
-        for (int session = 0; session <= 2; session++) {
-            SavepointStore store = Scenes.ALL_OPEN.made();
-            store.write(session, 0, 1);
-            due("commit(" + session + ")", store.commit(session), 1);
-            for (int other = 0; other <= 2; other++) {
-                due("session(" + other + ", 0)", store.session(other, 0), other == session ? 0 : 1);
-            }
-        }
+        leastAndGreatestSession("commit", SavepointStore::commit);
     }
 
     void promise4NoOpenTransaction() {
-        for (int session = 0; session <= 2; session++) {
-            int closed = session;
-            refused("commit(" + session + ")", NOT_POSSIBLE, store -> store.commit(closed), Scenes.NOTHING,
-                    Scenes.FULL_STORE, Scenes.ALL_OPEN.then(store -> store.commit(closed)),
-                    Scenes.ALL_OPEN.then(store -> store.rollback(closed)));
+        noOpenTransaction("commit", SavepointStore::commit);
+    }
+
+    private void dueCommit(Change... changes) {
+        for (Change change : changes) {
+            SavepointStore store = change.open().made();
+            String values = values(store);
+            due("commit of " + change.name(), store.commit(1), change.keys());
+            holds("the values behind commit of " + change.name() + " stay", values(store).equals(values));
         }
-        refused("commit(2)", NOT_POSSIBLE, store -> store.commit(2), Scenes.MIXED);
     }
 
-    private void dueCommit(String name, int want, Run before, Run during) {
-        SavepointStore store = new SavepointStore();
-        store.begin(1);
-        before.on(store);
-        store.commit(1);
-        store.begin(1);
-        during.on(store);
-        due("commit of " + name, store.commit(1), want);
+    private static String values(SavepointStore store) {
+        StringBuilder values = new StringBuilder();
+        for (int key = 0; key < 16; key++) {
+            values.append(store.value(key)).append(' ');
+        }
+        return values.toString();
     }
 
-    /** "that have another value than directly before the first change" */
+    /** "the number of keys that have another value than directly before the first change" */
     void promise4NoKeyHasAnotherValue() {
-        Run five = store -> store.write(1, 0, 5);
-        dueCommit("nothing", 0, five, store -> { });
-        dueCommit("a read", 0, five, store -> store.read(1, 0));
-        dueCommit("the same value", 0, five, store -> store.write(1, 0, 5));
-        dueCommit("a shift by 0", 0, five, store -> store.shift(1, 1, 0));
-        dueCommit("the value as before", 0, five, store -> {
-            store.write(1, 0, 6);
-            store.savepoint(1, 0);
-            store.erase(1, 0);
-            store.write(1, 0, 5);
-        });
-        dueCommit("no value as before", 0, five, store -> {
-            store.write(1, 1, 6);
-            store.erase(1, 1);
-        });
-        dueCommit("erasing no value", 0, five, store -> store.erase(1, 1));
-        dueCommit("an undone change", 0, five, store -> {
-            store.savepoint(1, 0);
-            store.write(1, 0, 6);
-            store.undoTo(1, 0);
-        });
-        dueCommit("a failed statement", 0, five, store -> store.shift(1, 3, 1));
+        dueCommit(Change.OF_NO_KEY);
     }
 
-    /** "or a value instead of none, or none instead of a value" */
+    /** "(or a value instead of none, or none instead of a value)" */
     void promise4OneKeyOfEachKind() {
-        Run zero = store -> store.write(1, 0, 0);
-        dueCommit("another value", 1, zero, store -> store.write(1, 0, 1));
-        dueCommit("a value instead of none", 1, zero, store -> store.write(1, 15, 0));
-        dueCommit("none instead of a value", 1, zero, store -> store.erase(1, 0));
-        dueCommit("a key that changed twice", 1, zero, store -> {
-            store.write(1, 0, 1);
-            store.savepoint(1, 0);
-            store.write(1, 0, 2);
-        });
+        dueCommit(Change.OF_ONE_KEY);
     }
 
     void promise4AllKeys() {
-        Run fill = store -> {
-            for (int key = 0; key < 16; key++) {
-                store.write(1, key, key);
-            }
-        };
-        dueCommit("values instead of none", 16, store -> { }, fill);
-        dueCommit("other values", 16, fill, store -> store.shift(1, 65535, 1));
-        dueCommit("the same values", 0, fill, fill);
-        dueCommit("none instead of values", 16, fill, store -> {
-            for (int key = 0; key < 16; key++) {
-                store.erase(1, key);
-            }
-        });
+        dueCommit(Change.OF_ALL_KEYS);
     }
 
     /** "directly before the first change by the transaction", which may be long behind begin. */
@@ -283,10 +230,9 @@ public final class TransactionsBoundaryTest extends Boundaries {
         for (int keep = 0; keep <= 1; keep++) {
             SavepointStore store = Scenes.FULL_SAVEPOINTS.made();
             store.keep(keep == 1);
-            store.write(0, 12, 112);
-            store.write(0, 13, 113);
-            store.write(0, 14, 114);
-            store.write(0, 15, 115);
+            for (int key = 12; key < 16; key++) {
+                store.write(0, key, 100 + key);
+            }
             due("commit(0)", store.commit(0), 16);
             dueClosed(store, 0);
             for (int key = 0; key < 16; key++) {
@@ -307,103 +253,38 @@ public final class TransactionsBoundaryTest extends Boundaries {
     // ---- 5: rollback
 
     void promise5NoSuchSession() {
-        for (int session : NO_SESSIONS) {
-            refused("rollback(" + session + ")", NO_SUCH, store -> store.rollback(session),
-                    Scenes.NOTHING, Scenes.MIXED, Scenes.ALL_OPEN);
-        }
+        noSuchSession("rollback", SavepointStore::rollback);
     }
 
     void promise5LeastAndGreatestSession() {
-        for (int session = 0; session <= 2; session++) {
-            SavepointStore store = Scenes.ALL_OPEN.made();
-            store.write(session, 0, 1);
-            due("rollback(" + session + ")", store.rollback(session), 1);
-            for (int other = 0; other <= 2; other++) {
-                due("session(" + other + ", 0)", store.session(other, 0), other == session ? 0 : 1);
-            }
-        }
+        leastAndGreatestSession("rollback", SavepointStore::rollback);
     }
 
     void promise5NoOpenTransaction() {
-        for (int session = 0; session <= 2; session++) {
-            int closed = session;
-            refused("rollback(" + session + ")", NOT_POSSIBLE, store -> store.rollback(closed),
-                    Scenes.NOTHING, Scenes.FULL_STORE, Scenes.ALL_OPEN.then(store -> store.commit(closed)),
-                    Scenes.ALL_OPEN.then(store -> store.rollback(closed)));
+        noOpenTransaction("rollback", SavepointStore::rollback);
+    }
+
+    private void dueRollback(Change... changes) {
+        for (Change change : changes) {
+            due("rollback of " + change.name(), change.open().made().rollback(1), change.keys());
+            Run behind = change.open().then(store -> store.rollback(1));
+            holds("rollback of " + change.name() + " brings back all",
+                    Picture.ofState(behind).equals(Picture.ofState(change.committed())));
         }
-        refused("rollback(2)", NOT_POSSIBLE, store -> store.rollback(2), Scenes.MIXED);
-    }
-
-    private void dueRollback(String name, int want, Run before, Run during) {
-        SavepointStore store = new SavepointStore();
-        store.begin(1);
-        before.on(store);
-        store.commit(1);
-        String committed = Picture.ofState(run(before));
-        store.begin(1);
-        during.on(store);
-        due("rollback of " + name, store.rollback(1), want);
-        Run all = run(before).then(again -> again.begin(1)).then(during).then(again -> again.rollback(1));
-        holds("rollback of " + name + " brings back all", Picture.ofState(all).equals(committed));
-    }
-
-    private static Run run(Run inTransaction) {
-        return store -> {
-            store.begin(1);
-            inTransaction.on(store);
-            store.commit(1);
-        };
     }
 
     /** "the number of keys that get another value by this" */
     void promise5NoKeyGetsAnotherValue() {
-        Run five = store -> store.write(1, 0, 5);
-        dueRollback("nothing", 0, five, store -> { });
-        dueRollback("a read", 0, five, store -> store.read(1, 0));
-        dueRollback("the same value", 0, five, store -> store.write(1, 0, 5));
-        dueRollback("the value as before", 0, five, store -> {
-            store.erase(1, 0);
-            store.savepoint(1, 0);
-            store.write(1, 0, 5);
-        });
-        dueRollback("no value as before", 0, five, store -> {
-            store.write(1, 1, 6);
-            store.erase(1, 1);
-        });
-        dueRollback("an undone change", 0, five, store -> {
-            store.savepoint(1, 0);
-            store.write(1, 0, 6);
-            store.undoTo(1, 0);
-        });
+        dueRollback(Change.OF_NO_KEY);
     }
 
-    /** "or a value instead of none, or none instead of a value" */
+    /** "(or a value instead of none, or none instead of a value)" */
     void promise5OneKeyOfEachKind() {
-        Run zero = store -> store.write(1, 0, 0);
-        dueRollback("another value", 1, zero, store -> store.write(1, 0, 1));
-        dueRollback("a value instead of none", 1, zero, store -> store.write(1, 15, 0));
-        dueRollback("none instead of a value", 1, zero, store -> store.erase(1, 0));
-        dueRollback("a key that changed twice", 1, zero, store -> {
-            store.write(1, 0, 1);
-            store.savepoint(1, 0);
-            store.write(1, 0, 2);
-        });
+        dueRollback(Change.OF_ONE_KEY);
     }
 
     void promise5AllKeys() {
-        Run fill = store -> {
-            for (int key = 0; key < 16; key++) {
-                store.write(1, key, key);
-            }
-        };
-        dueRollback("values instead of none", 16, store -> { }, fill);
-        dueRollback("other values", 16, fill, store -> store.shift(1, 65535, 1));
-        dueRollback("the same values", 0, fill, fill);
-        dueRollback("none instead of values", 16, fill, store -> {
-            for (int key = 0; key < 16; key++) {
-                store.erase(1, key);
-            }
-        });
+        dueRollback(Change.OF_ALL_KEYS);
     }
 
     /** "it is undone to the moment when it began", also past savepoints that were released. */
@@ -427,5 +308,35 @@ public final class TransactionsBoundaryTest extends Boundaries {
         recorded("rollback(0)", store -> store.rollback(0), Scenes.FULL_SAVEPOINTS);
         recorded("rollback(1)", store -> store.rollback(1), Scenes.MIXED);
         recorded("rollback(2)", store -> store.rollback(2), store -> store.begin(2));
+    }
+
+    // ---- what begin, commit and rollback share
+
+    private void noSuchSession(String method, Call.OfSession call) {
+        for (int session : NO_SESSIONS) {
+            refused(method + "(" + session + ")", NO_SUCH, call.by(session),
+                    Scenes.NOTHING, Scenes.MIXED, Scenes.ALL_OPEN);
+        }
+    }
+
+    private void leastAndGreatestSession(String method, Call.OfSession end) {
+        for (int session = 0; session <= 2; session++) {
+            SavepointStore store = Scenes.ALL_OPEN.made();
+            store.write(session, 0, 1);
+            due(method + "(" + session + ")", end.on(store, session), 1);
+            for (int other = 0; other <= 2; other++) {
+                due("session(" + other + ", 0)", store.session(other, 0), other == session ? 0 : 1);
+            }
+        }
+    }
+
+    private void noOpenTransaction(String method, Call.OfSession end) {
+        for (int session = 0; session <= 2; session++) {
+            int closed = session;
+            refused(method + "(" + session + ")", NOT_POSSIBLE, end.by(session), Scenes.NOTHING,
+                    Scenes.FULL_STORE, Scenes.ALL_OPEN.then(store -> store.commit(closed)),
+                    Scenes.ALL_OPEN.then(store -> store.rollback(closed)));
+        }
+        refused(method + "(2)", NOT_POSSIBLE, end.by(2), Scenes.MIXED);
     }
 }
