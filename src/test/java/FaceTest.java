@@ -1,89 +1,140 @@
+import java.io.IOException;
 import java.lang.reflect.Constructor;
 import java.lang.reflect.Field;
 import java.lang.reflect.Method;
 import java.lang.reflect.Modifier;
+import java.nio.file.Files;
+import java.nio.file.Path;
+import java.util.ArrayList;
+import java.util.List;
 import java.util.Set;
 import java.util.TreeMap;
 import java.util.TreeSet;
+import java.util.stream.Collectors;
+import java.util.stream.Stream;
 
-/** The public face: just the members that the document names, and no other that can be seen. */
-public final class FaceTest {
-    private static final String[] METHODS = {
-        "int keep(boolean)", "int begin(int)", "int commit(int)", "int rollback(int)",
-        "int savepoint(int,int)", "int undoTo(int,int)", "int release(int,int)",
-        "int read(int,int)", "int write(int,int,int)", "int erase(int,int)",
-        "int shift(int,int,int)", "int move(int,int,int,int)",
-        "int append(int)", "int clearText()", "int fault()", "int perform()",
+/** The section "The public face", and what the section "Errors" says of the face. */
+public final class FaceTest extends Cases {
+    private static final Class<?> FACE = SavepointStore.class;
+    private static final Path SOURCE = Path.of("src", "main", "java", "SavepointStore.java");
+
+    /** As the document has them; the lines with a rule are the heads that stand ahead of the calls. */
+    private static final String[] LINES = {
+        "---- the setting, transactions",
+        "int keep(boolean isKept)", "int begin(int session)", "int commit(int session)",
+        "int rollback(int session)",
+        "---- savepoints",
+        "int savepoint(int session, int name)", "int undoTo(int session, int name)",
+        "int release(int session, int name)",
+        "---- statements",
+        "int read(int session, int key)", "int write(int session, int key, int value)",
+        "int erase(int session, int key)", "int shift(int session, int keys, int delta)",
+        "int move(int session, int from, int to, int amount)",
+        "---- text",
+        "int append(int character)", "int clearText()", "int fault()", "int perform()",
+        "---- history and snapshot",
         "int undo()", "int save()", "int restore()",
-        "int value(int)", "int committed(int)", "int mode(int,int)", "int busyFor(int,int)",
-        "int session(int,int)", "int nameOf(int,int)", "int nearest(int,int)",
-        "int changedSince(int,int,boolean)", "int ifUndone(int,int,int)", "int total(int)",
-        "double mean()",
+        "---- queries; they change nothing, and lock nothing",
+        "int value(int key)", "int committed(int key)", "int mode(int session, int key)",
+        "int busyFor(int key, int mode)", "int session(int session, int what)",
+        "int nameOf(int session, int savepoint)", "int nearest(int session, int name)",
+        "int changedSince(int session, int savepoint, boolean isLocks)",
+        "int ifUndone(int session, int name, int key)", "int total(int what)", "double mean()",
     };
 
-    private FaceTest() {
+    public static void main(String[] args) throws ReflectiveOperationException {
+        new FaceTest().runAll("publicFace", "errors");
     }
 
-    public static void main(String[] args) throws ReflectiveOperationException {
-        Checks checks = new Checks();
-        Class<?> face = SavepointStore.class;
-        checks.holds("the class is public and final",
-                Modifier.isPublic(face.getModifiers()) && Modifier.isFinal(face.getModifiers()));
+    private static Stream<String> signatures() {
+        return Stream.of(LINES).filter(line -> !line.startsWith("----"));
+    }
 
-        Set<String> methods = new TreeSet<>();
-        Set<String> publicNames = new TreeSet<>();
-        for (Method method : face.getDeclaredMethods()) {
-            if (Modifier.isPublic(method.getModifiers())) {
-                methods.add(signature(method));
-                publicNames.add(method.getName());
-                checks.holds(method + " is no static method", !Modifier.isStatic(method.getModifiers()));
-                checks.holds(method + " declares no exception", method.getExceptionTypes().length == 0);
-            } else {
-                checks.holds(method + " is private", Modifier.isPrivate(method.getModifiers()));
-            }
+    void publicFaceClass() {
+        holds("the class is public and final",
+                Modifier.isPublic(FACE.getModifiers()) && Modifier.isFinal(FACE.getModifiers()));
+        holds("it stands in no package", FACE.getPackageName().isEmpty());
+        holds("it extends nothing", FACE.getSuperclass() == Object.class && FACE.getInterfaces().length == 0);
+        for (Class<?> inside : FACE.getDeclaredClasses()) {
+            holds(inside + " is not public", !Modifier.isPublic(inside.getModifiers())
+                    && !Modifier.isProtected(inside.getModifiers()));
         }
-        checks.holds("the methods are those of the document: " + methods,
-                methods.equals(new TreeSet<>(Set.of(METHODS))));
-        for (Method method : face.getDeclaredMethods()) {
-            checks.holds(method + " bears no name of a public one", Modifier.isPublic(method.getModifiers())
-                    || !publicNames.contains(method.getName()));
-        }
+    }
 
+    void publicFaceConstants() throws IllegalAccessException {
         TreeMap<String, Integer> constants = new TreeMap<>();
-        for (Field field : face.getDeclaredFields()) {
+        for (Field field : FACE.getDeclaredFields()) {
             int modifiers = field.getModifiers();
             if (Modifier.isPublic(modifiers)) {
-                checks.holds(field + " is a constant", Modifier.isStatic(modifiers)
+                holds(field + " is a constant", Modifier.isStatic(modifiers)
                         && Modifier.isFinal(modifiers) && field.getType() == int.class);
                 constants.put(field.getName(), field.getInt(null));
             } else {
-                checks.holds(field + " is private", Modifier.isPrivate(modifiers));
+                holds(field + " is private", Modifier.isPrivate(modifiers));
             }
         }
-        checks.holds("the constants are those of the document: " + constants,
+        holds("the constants are those of the document: " + constants,
                 constants.toString().equals("{BAD_VALUE=-2, BUSY=-6, FAILED=-7, NONE=-5, "
                         + "NOT_POSSIBLE=-4, NO_SUCH=-1, TOO_MANY=-3}"));
-
-        Constructor<?>[] constructors = face.getDeclaredConstructors();
-        checks.due("the number of constructors", constructors.length, 1);
-        checks.holds("the constructor is public and takes nothing",
-                Modifier.isPublic(constructors[0].getModifiers())
-                        && constructors[0].getParameterCount() == 0);
-        for (Class<?> inside : face.getDeclaredClasses()) {
-            checks.holds(inside + " is not public", !Modifier.isPublic(inside.getModifiers())
-                    && !Modifier.isProtected(inside.getModifiers()));
-        }
-        checks.end();
     }
 
-    private static String signature(Method method) {
-        StringBuilder text = new StringBuilder();
-        text.append(method.getReturnType().getName()).append(' ').append(method.getName()).append('(');
-        String comma = "";
-        for (Class<?> type : method.getParameterTypes()) {
-            text.append(comma).append(type.getName());
-            comma = ",";
+    void publicFaceConstructor() {
+        Constructor<?>[] constructors = FACE.getDeclaredConstructors();
+        due("the number of constructors", constructors.length, 1);
+        holds("the constructor is public and takes nothing", Modifier.isPublic(constructors[0].getModifiers())
+                && constructors[0].getParameterCount() == 0);
+        holds("it declares no exception", constructors[0].getExceptionTypes().length == 0);
+    }
+
+    void publicFaceMethods() {
+        Set<String> found = new TreeSet<>();
+        for (Method method : FACE.getDeclaredMethods()) {
+            if (Modifier.isPublic(method.getModifiers())) {
+                found.add(withoutNames(method));
+                holds(method + " is no static method", !Modifier.isStatic(method.getModifiers()));
+                holds(method + " declares no exception", method.getExceptionTypes().length == 0);
+            }
         }
-        return text.append(')').toString();
+        Set<String> wanted = signatures().map(line -> line.replaceAll(" \\w+([,)])", "$1"))
+                .collect(Collectors.toCollection(TreeSet::new));
+        holds("the methods are those of the document: " + found, found.equals(wanted));
+    }
+
+    private static String withoutNames(Method method) {
+        String types = Stream.of(method.getParameterTypes()).map(Class::getName).collect(Collectors.joining(", "));
+        return method.getReturnType().getName() + ' ' + method.getName() + '(' + types + ')';
+    }
+
+    /** "and nothing public beside them" */
+    void publicFaceNothingBeside() {
+        Set<String> names = signatures().map(line -> line.replaceAll("^\\w+ |\\(.*", ""))
+                .collect(Collectors.toSet());
+        due("names of public methods", names.size(), 30);
+        for (Method method : FACE.getDeclaredMethods()) {
+            boolean isPublic = Modifier.isPublic(method.getModifiers());
+            holds(method + " is public or private", isPublic || Modifier.isPrivate(method.getModifiers()));
+            holds(method + " bears the name of a public one just if it is one",
+                    isPublic == names.contains(method.getName()));
+        }
+    }
+
+    /** What each parameter is called, which only the text of the class tells. */
+    void publicFaceNamesOfParameters() throws IOException {
+        List<String> lines = Files.readAllLines(SOURCE);
+        signatures().forEach(line -> holds("it stands: " + line, lines.contains("    public " + line + " {")));
+        holds("the constructor stands", lines.contains("    public SavepointStore() {"));
+    }
+
+    /** "Ahead of the calls .. the interface says" */
+    void errorsHeadsAheadOfTheCalls() throws IOException {
+        List<String> found = new ArrayList<>();
+        for (String line : Files.readAllLines(SOURCE)) {
+            if (line.matches("    public (int|double) \\w+\\(.*\\) \\{")) {
+                found.add(line.substring("    public ".length(), line.length() - " {".length()));
+            } else if (line.startsWith("    // ---- ") && found.size() < LINES.length) {
+                found.add(line.substring("    // ".length()));
+            }
+        }
+        holds("heads and calls in the document's order: " + found, found.equals(List.of(LINES)));
     }
 }

@@ -1,5 +1,5 @@
 /** The boundary cases of promises 18 to 20 and of the section "Actions and history". */
-public final class HistoryBoundaryTest extends Boundaries {
+public final class HistoryBoundaryTest extends Cases {
     /** Each of the 14 actions, and statements that end with BUSY and FAILED, all possible in OLD. */
     private static final Call[] ACTIONS = {
         store -> store.keep(true), store -> store.begin(2), store -> store.commit(0),
@@ -90,7 +90,7 @@ public final class HistoryBoundaryTest extends Boundaries {
                     store.undo();
                 }
             });
-            holds("the oldest state behind " + name, Picture.ofState(oldest).equals(Picture.ofState(second)));
+            sameState("the oldest state behind " + name, oldest, second);
         }
     }
 
@@ -107,10 +107,10 @@ public final class HistoryBoundaryTest extends Boundaries {
                 store.keep(true);
             });
             Run back = behind.then(Checks::emptyHistory);
-            holds("the state before five actions", Picture.ofState(back).equals(Picture.ofState(scene)));
-            holds("the totals before five actions", Picture.ofTotals(back).equals(Picture.ofTotals(scene)));
+            sameState("the state before five actions", back, scene);
+            sameTotals("the totals before five actions", back, scene);
             Run again = behind.then(store -> store.rollback(0)).then(SavepointStore::undo);
-            holds("the state before rollback", Picture.ofState(again).equals(Picture.ofState(behind)));
+            sameState("the state before rollback", again, behind);
         }
     }
 
@@ -268,8 +268,8 @@ public final class HistoryBoundaryTest extends Boundaries {
 
     void promise19ChangesNothingElse() {
         Run saved = OLD.then(SavepointStore::save);
-        holds("the state", Picture.ofState(saved).equals(Picture.ofState(OLD)));
-        holds("the totals", Picture.ofTotals(saved).equals(Picture.ofTotals(OLD)));
+        sameState("the state", saved, OLD);
+        sameTotals("the totals", saved, OLD);
     }
 
     // ---- 20: restore
@@ -301,10 +301,10 @@ public final class HistoryBoundaryTest extends Boundaries {
             Scenes.ALL_OPEN}) {
             Run restored = scene.then(SavepointStore::save).then(HistoryBoundaryTest::disturb)
                     .then(SavepointStore::restore);
-            holds("the state", Picture.ofState(restored).equals(Picture.ofState(scene)));
-            holds("the totals", Picture.ofTotals(restored).equals(Picture.ofTotals(scene)));
+            sameState("the state", restored, scene);
+            sameTotals("the totals", restored, scene);
             Run twice = restored.then(HistoryBoundaryTest::disturb).then(SavepointStore::restore);
-            holds("the snapshot remains", Picture.ofState(twice).equals(Picture.ofState(scene)));
+            sameState("the snapshot remains", twice, scene);
         }
     }
 

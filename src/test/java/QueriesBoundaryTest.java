@@ -1,5 +1,5 @@
 /** The boundary cases of promises 21 to 31: the queries. */
-public final class QueriesBoundaryTest extends Boundaries {
+public final class QueriesBoundaryTest extends Cases {
     private static final int[] NO_MODES = {0, 3, -1, 4, 65537, MIN, MAX};
     private static final int[] NO_SUBJECTS = {-1, 5, 6, 65536, MIN, MAX};
     private static final int[] NO_TOTALS = {-1, 7, 8, 65536, MIN, MAX};
@@ -33,6 +33,32 @@ public final class QueriesBoundaryTest extends Boundaries {
             due("value(" + other + ")", store.value(other), NONE);
         }
         changesNothing("value(0)", store -> store.value(0), Scenes.MIXED);
+    }
+
+    /** "the value of a key in the store, whoever has changed it" */
+    void promise21WhoeverHasChangedIt() {
+        for (int session = 0; session <= 2; session++) {
+            SavepointStore store = Scenes.FULL_STORE.then(Scenes.ALL_OPEN).made();
+            store.write(session, 3, 30 + session);
+            store.savepoint(session, 0);
+            store.erase(session, 4);
+            due("an open transaction's", store.value(3), 30 + session);
+            due("an open transaction's", store.value(4), NONE);
+            due("a committed one", store.value(5), 9999);
+            store.undoTo(session, 0);
+            due("behind undoTo", store.value(4), 9999);
+            store.rollback(session);
+            due("behind rollback", store.value(3), 9999);
+            Checks.perform(store, "0w3=3");
+            due("a script's", store.value(3), session == 0 ? 9999 : 3);
+            store.save();
+            store.write((session + 1) % 3, 6, 6);
+            due("another session's", store.value(6), 6);
+            store.restore();
+            due("the snapshot's", store.value(6), 9999);
+            store.undo();
+            due("behind undo", store.value(6), 6);
+        }
     }
 
     // ---- 22: committed

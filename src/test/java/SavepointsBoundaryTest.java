@@ -1,5 +1,5 @@
 /** The boundary cases of promises 6 to 8 and of the section "Savepoints". */
-public final class SavepointsBoundaryTest extends Boundaries {
+public final class SavepointsBoundaryTest extends Cases {
     private static final Run OPEN = store -> store.begin(0);
 
     public static void main(String[] args) throws ReflectiveOperationException {
@@ -188,8 +188,8 @@ public final class SavepointsBoundaryTest extends Boundaries {
             });
             Run behind = before.then(change.during());
             due("undoTo behind " + change.name(), behind.made().undoTo(1, 6), change.keys());
-            holds("undoTo behind " + change.name() + " brings back all",
-                    Picture.ofState(behind.then(store -> store.undoTo(1, 6))).equals(Picture.ofState(before)));
+            sameState("undoTo behind " + change.name() + " brings back all",
+                    behind.then(store -> store.undoTo(1, 6)), before);
         }
     }
 

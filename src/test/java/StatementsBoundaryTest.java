@@ -1,5 +1,5 @@
 /** The boundary cases of promises 9 to 13 and of the sections "Locks" and "Statements". */
-public final class StatementsBoundaryTest extends Boundaries {
+public final class StatementsBoundaryTest extends Cases {
     private static final int[] NO_VALUES = {-1, 10000, 10001, 65536, MIN, MAX};
     private static final int[] NO_MASKS = {0, -1, 65536, 65537, 1 << 17, MIN, MIN + 1, MAX};
     private static final int[] NO_DELTAS = {-10000, 10000, -10001, 65536, MIN, MAX};

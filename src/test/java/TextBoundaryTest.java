@@ -1,5 +1,5 @@
 /** The boundary cases of promises 14 to 17 and of the section "Text". */
-public final class TextBoundaryTest extends Boundaries {
+public final class TextBoundaryTest extends Cases {
     private static final int[] NO_CHARACTERS =
         {31, 127, 0, -1, 128, 256 + 48, 65536 + 48, 65536 + 98, MIN, MIN + 48, MAX};
 
@@ -270,6 +270,34 @@ public final class TextBoundaryTest extends Boundaries {
         duePerform(Scenes.FULL_SCRIPT, 27, Scenes.NOTHING);
         duePerform(Scenes.FULL_SCRIPT.substring(0, 78) + "0c", 26, Scenes.NOTHING);
         duePerform("1" + Scenes.FULL_SCRIPT.substring(1), 1, Scenes.NOTHING);
+    }
+
+    /** "Carries out the orders of the text, one after the other, as the methods do" */
+    void promise17OneAfterTheOtherAsTheMethodsDo() {
+        String script = "2b;0uc;2g15;0w9=90;0sb;2w7=1;0e0;0db;1c;2sh;2r;0c;0b";
+        Run performed = Scenes.MIXED.then(text(script)).then(SavepointStore::perform);
+        Run called = Scenes.MIXED.then(store -> {
+            store.begin(2);
+            store.undoTo(0, 2);
+            store.read(2, 15);
+        });
+        due("busy at the third", Scenes.MIXED.then(text(script)).made().perform(), 2);
+        sameState("up to the third", performed, called);
+        sameTotals("up to the third", performed, called);
+        Run free = Scenes.MIXED.then(store -> store.commit(1));
+        Run all = free.then(store -> {
+            store.begin(2);
+            store.undoTo(0, 2);
+            store.read(2, 15);
+            store.write(0, 9, 90);
+            store.savepoint(0, 1);
+            store.write(2, 7, 1);
+            store.erase(0, 0);
+            store.release(0, 1);
+        });
+        due("the session 1 is closed", free.then(text(script)).made().perform(), 8);
+        sameState("up to the ninth", free.then(text(script)).then(SavepointStore::perform), all);
+        sameTotals("up to the ninth", free.then(text(script)).then(SavepointStore::perform), all);
     }
 
     /** "up to the first one for which the method would return an error code" */

@@ -1,5 +1,5 @@
 /** The boundary cases of promises 1 to 5: a new object, keep, begin, commit, rollback. */
-public final class TransactionsBoundaryTest extends Boundaries {
+public final class TransactionsBoundaryTest extends Cases {
     public static void main(String[] args) throws ReflectiveOperationException {
         new TransactionsBoundaryTest().runAll(1, 5);
     }
@@ -90,6 +90,24 @@ public final class TransactionsBoundaryTest extends Boundaries {
         recorded("keep(true)", store -> store.keep(true), Scenes.NOTHING);
         recorded("keep(true)", store -> store.keep(true), Scenes.MIXED);
         recorded("keep(false)", store -> store.keep(false), Scenes.MIXED);
+    }
+
+    /** "Changes the setting KEEP", which decides on the locks of what is undone from then on. */
+    void promise2DecidesOnTheLocks() {
+        SavepointStore store = Scenes.ALL_OPEN.made();
+        for (int keep = 0; keep <= 1; keep++) {
+            store.keep(keep == 1);
+            due("shift of no value", store.shift(0, 1, 1), FAILED);
+            due("its lock with KEEP " + keep, store.mode(0, 0), keep == 1 ? 2 : 0);
+            store.savepoint(1, keep);
+            store.write(1, 5, 5);
+            store.undoTo(1, keep);
+            due("the lock behind undoTo with KEEP " + keep, store.mode(1, 5), keep == 1 ? 2 : 0);
+        }
+        store.keep(false);
+        due("what was kept stays", store.mode(0, 0), 2);
+        due("until it is undone", store.undoTo(1, 1), 0);
+        due("mode(1, 5)", store.mode(1, 5), 0);
     }
 
     /** No other call changes the setting, but for undo and restore, which bring back another state. */
@@ -268,8 +286,7 @@ public final class TransactionsBoundaryTest extends Boundaries {
         for (Change change : changes) {
             due("rollback of " + change.name(), change.open().made().rollback(1), change.keys());
             Run behind = change.open().then(store -> store.rollback(1));
-            holds("rollback of " + change.name() + " brings back all",
-                    Picture.ofState(behind).equals(Picture.ofState(change.committed())));
+            sameState("rollback of " + change.name() + " brings back all", behind, change.committed());
         }
     }
 

@@ -1,14 +1,19 @@
 import java.lang.reflect.Method;
+import java.lang.reflect.Modifier;
+import java.util.ArrayList;
 import java.util.Arrays;
 import java.util.Comparator;
 import java.util.IdentityHashMap;
+import java.util.List;
 import java.util.Map;
+import java.util.Set;
+import java.util.TreeSet;
 
 /**
- * What the tests of the boundary cases share. Each of their methods whose name begins with "promise"
- * is run by itself; it bears the promise's number and stands for one sentence of the document.
+ * What the tests of single sentences share. Each of their methods that is not private is a case and is
+ * run by itself; its name begins with the promise's number, or with the name of the document's section.
  */
-abstract class Boundaries {
+abstract class Cases {
     static final int NO_SUCH = SavepointStore.NO_SUCH;
     static final int BAD_VALUE = SavepointStore.BAD_VALUE;
     static final int TOO_MANY = SavepointStore.TOO_MANY;
@@ -29,26 +34,47 @@ abstract class Boundaries {
     private final Map<Run, String> pictures = new IdentityHashMap<>();
     private String sentence = "";
 
-    /** Runs all cases; each of these promises has to have one. */
+    /** Runs all cases of these promises; each promise has to have one. */
     final void runAll(int firstPromise, int lastPromise) throws ReflectiveOperationException {
-        Method[] methods = getClass().getDeclaredMethods();
-        Arrays.sort(methods, Comparator.comparing(Method::getName));
+        String[] heads = new String[lastPromise - firstPromise + 1];
+        Arrays.setAll(heads, index -> "promise" + (firstPromise + index));
+        runAll(heads);
+    }
+
+    /** Runs all cases; each begins with one of these heads, and each head has to have one. */
+    final void runAll(String... heads) throws ReflectiveOperationException {
+        Set<String> missing = new TreeSet<>(Arrays.asList(heads));
         int run = 0;
-        for (Method method : methods) {
-            if (method.getName().startsWith("promise")) {
-                sentence = method.getName();
-                method.invoke(this);
-                run++;
-            }
+        for (Method method : cases()) {
+            sentence = method.getName();
+            Set<String> borne = new TreeSet<>(Arrays.asList(heads));
+            borne.removeIf(head -> !bears(sentence, head));
+            holds("its name begins with a head of this test", !borne.isEmpty());
+            missing.removeAll(borne);
+            method.invoke(this);
+            run++;
         }
         sentence = getClass().getName();
-        for (int promise = firstPromise; promise <= lastPromise; promise++) {
-            String name = "promise" + promise + "[A-Z].*";
-            holds("promise " + promise + " has a boundary case",
-                    Arrays.stream(methods).anyMatch(method -> method.getName().matches(name)));
-        }
-        System.out.println(run + " boundary cases");
+        holds("no head is without a case: " + missing, missing.isEmpty());
+        System.out.println(run + " cases");
         checks.end();
+    }
+
+    private List<Method> cases() {
+        List<Method> cases = new ArrayList<>();
+        for (Method method : getClass().getDeclaredMethods()) {
+            int modifiers = method.getModifiers();
+            if (!Modifier.isPrivate(modifiers) && !Modifier.isStatic(modifiers)) {
+                cases.add(method);
+            }
+        }
+        cases.sort(Comparator.comparing(Method::getName));
+        return cases;
+    }
+
+    /** promise1 is the head of promise1EmptyText, and not of promise12Busy. */
+    static boolean bears(String name, String head) {
+        return name.matches(head + "[A-Z].*");
     }
 
     final void due(String call, long got, long want) {
@@ -83,7 +109,7 @@ abstract class Boundaries {
     final void undone(String name, int code, Call statement, Run scene) {
         Run behind = scene.then(statement::on);
         due(name, statement.on(scene.made()), code);
-        holds(name + " is undone", Picture.ofState(behind).equals(Picture.ofState(scene)));
+        sameState(name + " is undone", behind, scene);
         for (int what = 0; what < 7; what++) {
             boolean isCounted = what == (code == BUSY ? 3 : 4);
             due("total(" + what + ") behind " + name, behind.made().total(what),
@@ -92,12 +118,21 @@ abstract class Boundaries {
         recorded(name, statement, scene);
     }
 
+    /** The queries, undoTo and rollback tell the same of both. */
+    final void sameState(String claim, Run got, Run want) {
+        holds(claim, Picture.ofState(got).equals(Picture.ofState(want)));
+    }
+
+    final void sameTotals(String claim, Run got, Run want) {
+        holds(claim, Picture.ofTotals(got).equals(Picture.ofTotals(want)));
+    }
+
     /** The call is an action: undo brings back the state before it. */
     final void recorded(String name, Call call, Run scene) {
         Run undone = scene.then(call::on).then(SavepointStore::undo);
         due("states behind " + name, statesOf(scene.then(call::on)), Math.min(statesOf(scene) + 1, 5));
-        holds("undo of " + name, Picture.ofState(undone).equals(Picture.ofState(scene))
-                && Picture.ofTotals(undone).equals(Picture.ofTotals(scene)));
+        sameState("the state behind undo of " + name, undone, scene);
+        sameTotals("the totals behind undo of " + name, undone, scene);
     }
 
     static int statesOf(Run run) {
