@@ -1,15 +1,5 @@
 /** The boundary cases of promises 18 to 20 and of the section "Actions and history". */
 public final class HistoryBoundaryTest extends Cases {
-    /** Each of the 14 actions, and statements that end with BUSY and FAILED, all possible in OLD. */
-    private static final Call[] ACTIONS = {
-        store -> store.keep(true), store -> store.begin(2), store -> store.commit(0),
-        store -> store.rollback(0), store -> store.savepoint(0, 7), store -> store.undoTo(0, 1),
-        store -> store.release(0, 1), store -> store.read(0, 9), store -> store.write(0, 9, 9),
-        store -> store.erase(0, 9), store -> store.shift(0, 1, 1), store -> store.move(0, 0, 9, 1),
-        SavepointStore::perform, SavepointStore::restore,
-        store -> store.read(0, 1), store -> store.shift(0, 1 << 9, 1),
-    };
-
     /** Sessions 0 and 1 are open and have changed the keys 0 and 1; behind more than five actions. */
     private static final Run OLD = store -> {
         store.begin(0);
@@ -75,8 +65,8 @@ public final class HistoryBoundaryTest extends Cases {
 
     /** Each kind of action records as the fifth and as the sixth; the oldest state goes, no other. */
     void promise18EachActionAsTheSixth() {
-        for (int action = 0; action < ACTIONS.length; action++) {
-            Call call = ACTIONS[action];
+        for (int action = 0; action < Actions.ALL.length; action++) {
+            Call call = Actions.ALL[action];
             String name = "action " + action;
             recorded(name, call, OLD);
             Run four = OLD.then(SavepointStore::undo);
@@ -211,18 +201,16 @@ public final class HistoryBoundaryTest extends Cases {
 
     /** append, clearText, fault, undo, save and the queries are no actions. */
     void promise18OtherCallsRecordNothing() {
-        Call[] others = {
-            store -> store.append('0'), SavepointStore::clearText, SavepointStore::fault, SavepointStore::save,
-            store -> store.value(0), store -> store.committed(0), store -> store.mode(0, 0),
-            store -> store.busyFor(0, 1), store -> store.session(0, 0), store -> store.nameOf(0, 0),
-            store -> store.nearest(0, 1), store -> store.changedSince(0, 0, true),
-            store -> store.ifUndone(0, 1, 0), store -> store.total(0), store -> (int) store.mean(),
-        };
-        for (int other = 0; other < others.length; other++) {
-            Call call = others[other];
-            due("states behind call " + other, statesOf(OLD.then(call::on)), 5);
+        recordNothing("the query", Actions.QUERIES);
+        recordNothing("the call", Actions.OTHERS);
+    }
+
+    private void recordNothing(String name, Call... calls) {
+        for (int number = 0; number < calls.length; number++) {
+            Call call = calls[number];
+            due("states behind " + name + " " + number, statesOf(OLD.then(call::on)), 5);
             Run two = actions(2).then(call::on);
-            due("states behind call " + other, statesOf(two), 2);
+            due("states behind " + name + " " + number, statesOf(two), 2);
             Run back = OLD.then(call::on).then(SavepointStore::undo);
             due("value(0) behind undo", back.made().value(0), 50);
         }

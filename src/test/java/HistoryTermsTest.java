@@ -19,24 +19,6 @@ public final class HistoryTermsTest extends Cases {
         Scenes.type(store, "1sc;1g7");
     };
 
-    /** The 14 actions in the document's order, none of which is refused in the scene. */
-    private static final Call[] ACTIONS = {
-        store -> store.keep(true), store -> store.begin(2), store -> store.commit(0),
-        store -> store.rollback(0), store -> store.savepoint(0, 7), store -> store.undoTo(0, 1),
-        store -> store.release(0, 1), store -> store.read(0, 9), store -> store.write(0, 9, 9),
-        store -> store.erase(0, 0), store -> store.shift(0, 1, 1), store -> store.move(0, 0, 9, 1),
-        SavepointStore::perform, SavepointStore::restore,
-    };
-
-    /** The other methods, but for undo. */
-    private static final Call[] NO_ACTIONS = {
-        store -> store.append(';'), SavepointStore::clearText, SavepointStore::fault, SavepointStore::save,
-        store -> store.value(0), store -> store.committed(0), store -> store.mode(0, 0),
-        store -> store.busyFor(0, 2), store -> store.session(0, 4), store -> store.nameOf(0, 1),
-        store -> store.nearest(0, 4), store -> store.changedSince(0, 0, false),
-        store -> store.ifUndone(0, 1, 0), store -> store.total(2), store -> (int) store.mean(),
-    };
-
     public static void main(String[] args) throws ReflectiveOperationException {
         new HistoryTermsTest().runAll("actionsAndHistory", "errors");
     }
@@ -45,25 +27,27 @@ public final class HistoryTermsTest extends Cases {
 
     /** "The actions are keep, begin, .. perform and restore.": they are recorded, and no other method is. */
     void actionsAndHistoryWhatAnActionIs() {
-        for (int action = 0; action < ACTIONS.length; action++) {
-            recorded("action " + action, ACTIONS[action], SCENE);
+        for (int action = 0; action < Actions.ALL.length; action++) {
+            recorded("action " + action, Actions.ALL[action], SCENE);
         }
-        Run two = store -> {
-            store.begin(0);
-            store.savepoint(0, 4);
-        };
-        for (int call = 0; call < NO_ACTIONS.length; call++) {
-            due("states behind call " + call, statesOf(two.then(NO_ACTIONS[call]::on)), 2);
-            Run back = SCENE.then(NO_ACTIONS[call]::on).then(SavepointStore::undo);
-            sameState("the state behind call " + call + " and undo", back, SCENE.then(SavepointStore::undo));
+        isNoAction("query", Actions.QUERIES);
+        isNoAction("call", Actions.OTHERS);
+        due("states behind undo, which is none", statesOf(SCENE.then(SavepointStore::undo)), 4);
+    }
+
+    private void isNoAction(String name, Call... calls) {
+        Run before = SCENE.then(SavepointStore::undo);
+        for (int number = 0; number < calls.length; number++) {
+            Run back = SCENE.then(calls[number]::on).then(SavepointStore::undo);
+            sameState("the state behind " + name + " " + number + " and undo", back, before);
+            due("states behind " + name + " " + number + " and undo", statesOf(back), 4);
         }
-        due("undo is none: states behind it", statesOf(SCENE.then(SavepointStore::undo)), 4);
     }
 
     /** "The state consists of the setting, the values, the transactions .., the locks, and the numbers" */
     void actionsAndHistoryWhatTheStateIs() {
         Run[] ways = {
-            SCENE.then(ACTIONS[2]::on).then(SavepointStore::undo),
+            SCENE.then(Actions.COMMIT::on).then(SavepointStore::undo),
             SCENE.then(SavepointStore::save).then(HistoryTermsTest::disturb).then(SavepointStore::restore),
         };
         for (Run way : ways) {
@@ -124,7 +108,7 @@ public final class HistoryTermsTest extends Cases {
             int count = actions;
             Run run = store -> {
                 for (int i = 0; i < count; i++) {
-                    ACTIONS[0].on(store);
+                    Actions.KEEP.on(store);
                 }
             };
             due("states behind " + actions + " actions", statesOf(run), Math.min(actions, 5));
@@ -296,9 +280,9 @@ public final class HistoryTermsTest extends Cases {
 
     /** "queries; they change nothing, and lock nothing" */
     void errorsQueriesChangeNothing() {
-        for (int query = 4; query < NO_ACTIONS.length; query++) {
-            holds("query " + query + " is answered", NO_ACTIONS[query].on(SCENE.made()) >= 0);
-            changesNothing("query " + query, NO_ACTIONS[query], SCENE);
+        for (int query = 0; query < Actions.QUERIES.length; query++) {
+            holds("query " + query + " is answered", Actions.QUERIES[query].on(SCENE.made()) >= 0);
+            changesNothing("query " + query, Actions.QUERIES[query], SCENE);
         }
         changesNothing("fault", SavepointStore::fault, SCENE);
         SavepointStore store = SCENE.made();
