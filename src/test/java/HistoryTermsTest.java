@@ -80,7 +80,13 @@ public final class HistoryTermsTest extends Cases {
         store.write(2, 0, 7);
         store.shift(2, 2, 1);
         store.begin(0);
+        store.savepoint(0, 6);
         store.read(0, 0);
+        store.commit(2);
+        store.write(0, 0, 8);
+        store.write(0, 3, 8);
+        store.savepoint(0, 5);
+        store.write(0, 0, 9);
     }
 
     /** "Each action that returns no error code records the state before it .., even if the action changes nothing." */
